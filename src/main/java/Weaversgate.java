@@ -501,6 +501,14 @@ public final class Weaversgate {
             }
             return found;
         }
+
+        int countPlaces() {
+            int found = 0;
+            for (int i = 0; i < bodies.length; i++) {
+                found += bodies[i].countPlaces();
+            }
+            return found;
+        }
     }
 
     /** The patterns; one that is made of others has a higher number than these. */
@@ -590,6 +598,16 @@ public final class Weaversgate {
             count++;
             return advice;
         }
+
+        int countOn() {
+            int found = 0;
+            for (int advice = 0; advice < count; advice++) {
+                if (on[advice]) {
+                    found++;
+                }
+            }
+            return found;
+        }
     }
 
     /** The order of the aspects, found anew whenever something is told. */
@@ -661,7 +679,7 @@ public final class Weaversgate {
         }
 
         int countAllPairs() {
-            return countPairs(YES) + countPairs(NO) + countPairs(MAYBE);
+            return classes.countPlaces() * advices.countOn();
         }
 
         /** Counts the pairs of a place and an advice that is on which have this verdict. */

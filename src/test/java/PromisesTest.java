@@ -1,17 +1,5 @@
-import java.util.NoSuchElementException;
-import java.util.function.Supplier;
-
 /** Each promise of the document, with ordinary inputs, its edges and wrong inputs. */
-public final class PromisesTest {
-    private static final String INDEX = "IndexOutOfBoundsException";
-    private static final String ARGUMENT = "IllegalArgumentException";
-    private static final String STATE = "IllegalStateException";
-    private static final String ELEMENT = "NoSuchElementException";
-    private static final String ARITHMETIC = "ArithmeticException";
-
-    private static int wrong = 0;
-    private static int looked = 0;
-
+public final class PromisesTest extends Checks {
     public static void main(String[] args) {
         newObject();
         addClass();
@@ -55,66 +43,7 @@ public final class PromisesTest {
         meanSteps();
         isSound();
         aThrowChangesNothing();
-        System.out.println(wrong == 0 ? looked + " answers are as due" : wrong + " answers are not as due");
-        if (wrong != 0) {
-            System.exit(1);
-        }
-    }
-
-    // ---- How it is tested
-
-    private static void due(String what, Object want, Supplier<Object> call) {
-        looked++;
-        Object got;
-        try {
-            got = call.get();
-        } catch (RuntimeException e) {
-            got = e.getClass().getSimpleName();
-        }
-        if (!want.equals(got)) {
-            wrong++;
-            System.out.println(what + " answered " + got + ", due is " + want);
-        }
-    }
-
-    /** Steps such as "n 2 0, c 1 0". */
-    private static void steps(Weaversgate x, int type, int method, String steps) {
-        for (String step : steps.split(", ")) {
-            String[] parts = step.split(" ");
-            x.addStep(type, method, parts[0].charAt(0), Integer.parseInt(parts[1]), Integer.parseInt(parts[2]));
-        }
-    }
-
-    /** Patterns such as "c 0 0, & 0 1", numbered in their order. */
-    private static void patterns(Weaversgate x, String patterns) {
-        for (String pattern : patterns.split(", ")) {
-            String[] parts = pattern.split(" ");
-            x.addPattern(parts[0].charAt(0), Integer.parseInt(parts[1]), Integer.parseInt(parts[2]));
-        }
-    }
-
-    /** Both kinds of run end with this letter, this result and this trace, such as "b0:5 a1:7". */
-    private static void ends(String what, Weaversgate x, int type, int method, int value, String end) {
-        x.run(type, method, value);
-        due(what + ", woven", end, () -> ended(x, x.run(type, method, value)));
-        due(what + ", asking", end, () -> ended(x, x.runAsking(type, method, value)));
-    }
-
-    private static String ended(Weaversgate x, char letter) {
-        StringBuilder text = new StringBuilder().append(letter);
-        if (letter != 'l') {
-            text.append(' ').append(x.result());
-        }
-        for (int i = 0; i < x.traceLength(); i++) {
-            text.append(' ').append(x.traceKind(i)).append(x.traceAdvice(i)).append(':').append(x.traceValue(i));
-        }
-        return text.toString();
-    }
-
-    private static Weaversgate withClass() {
-        Weaversgate x = new Weaversgate();
-        x.addClass(-1);
-        return x;
+        finish();
     }
 
     // ---- The promises
